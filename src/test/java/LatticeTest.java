@@ -1,3 +1,6 @@
+import java.util.ArrayList;
+import java.util.List;
+
 /** Promises 31 to 37: rotations, and all stable pairings. */
 final class LatticeTest {
     private static final Class<IllegalArgumentException> ARGUMENT = IllegalArgumentException.class;
@@ -18,6 +21,7 @@ final class LatticeTest {
         numbering();
         fairest();
         limits();
+        byAllOrders();
         Check.end();
     }
 
@@ -215,6 +219,81 @@ final class LatticeTest {
         tooMany(beside(TEN_OF_FOUR, TEN_OF_FOUR), 100);
     }
 
+    /** Markets of eight, all of whom list all, with 59, 60 and 61 stable pairings. */
+    private static final String[][] EIGHT = {
+        {"02134567 10352476 23016745 32107654 45067123 54176032 67452301 67543210",
+            "76543210 67453201 54716032 45607132 31207654 23106745 10325476 01234567"},
+        {"01234567 10325467 23016745 31027654 45670213 54761032 67452301 76543210",
+            "76543201 67452031 57461032 45670123 32106754 23061475 10325467 01234567"},
+        {"01234567 10352746 20316745 32107654 45670123 54716032 67452301 76453210",
+            "76453210 67452103 54761032 45670123 32107654 20316745 10325476 01243567"},
+    };
+
+    private static void byAllOrders() {
+        int[] many = {59, 60, 61};
+        for (int k = 0; k < many.length; k++) {
+            StablepairBureau x = beside(EIGHT[k]);
+            List<String> stable = new ArrayList<>();
+            for (int[] homes : orders(8)) {
+                if (holdsTogether(x, homes)) {
+                    stable.add(row(homes));
+                }
+            }
+            Check.due("found by trying all", many[k], stable.size());
+            Check.due("true", true, x.isTrue());
+            if (many[k] > 60) {
+                tooMany(x, many[k]);
+                continue;
+            }
+            Check.due("stables", many[k], x.stables());
+            for (int index = 0; index < many[k]; index++) {
+                Check.due("stableAt", 8, x.stableAt(index));
+                Check.due("its pairs", stable.get(index), Check.homes(x));
+            }
+            Check.thrown("none behind the last one", INDEX, x, () -> x.stableAt(stable.size()));
+        }
+    }
+
+    private static String row(int[] homes) {
+        StringBuilder row = new StringBuilder();
+        for (int home : homes) {
+            row.append(row.length() == 0 ? "" : " ").append(home);
+        }
+        return row.toString();
+    }
+
+    /** All orders of the numbers below a bound, the lowest ones first. */
+    private static List<int[]> orders(int bound) {
+        List<int[]> all = new ArrayList<>();
+        order(new int[bound], 0, 0, all);
+        return all;
+    }
+
+    private static void order(int[] row, int at, int used, List<int[]> all) {
+        if (at == row.length) {
+            all.add(row.clone());
+        }
+        for (int number = 0; number < row.length && at < row.length; number++) {
+            if ((used >> number & 1) == 0) {
+                row[at] = number;
+                order(row, at + 1, used | 1 << number, all);
+            }
+        }
+    }
+
+    private static boolean holdsTogether(StablepairBureau x, int[] homes) {
+        for (int person = 0; person < homes.length; person++) {
+            for (int other = 0; other < homes.length; other++) {
+                int house = homes[other];
+                if (x.rank('p', person, house) < x.rank('p', person, homes[person])
+                        && x.rank('h', house, person) < x.rank('h', house, other)) {
+                    return false;
+                }
+            }
+        }
+        return true;
+    }
+
     private static void tooMany(StablepairBureau x, int stables) {
         x.run('h');
         if (stables <= 60) {
@@ -227,7 +306,7 @@ final class LatticeTest {
         }
         Check.thrown("fairest of " + stables, CANNOT, x, () -> x.fairest('s'));
         Check.thrown("wrong kind, and too many", ARGUMENT, x, () -> x.fairest('x'));
-        Check.due("yet it has rotations", 0, x.rotations());
+        Check.due("no rotation is left by the houses' offers", 0, x.rotations());
         Check.due("and is true", true, x.isTrue());
     }
 }
