@@ -6,7 +6,7 @@ import java.util.NoSuchElementException;
  * pairings and their lattice, false lists, mates for rooms, rings of trade and of gifts.
  *
  * <p>The inner classes answer for any argument (NONE, 0 or false outside their bounds), so that no index needs a
- * second look where they are used; the public methods alone throw.
+ * second look where they are used; the outer class alone throws.
  */
 public final class StablepairBureau {
     private static final int MOST = 10;

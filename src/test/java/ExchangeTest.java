@@ -88,6 +88,12 @@ final class ExchangeTest {
         StablepairBureau w = Check.bureau("1>2>3 1 1>0>3 1>2>0", "- - - -");
         Check.due("one after the other", 3, w.trade());
         Check.due("who gets what", "2/2 1/1 0/2 3/3", traded(w));
+        StablepairBureau ten = Check.bureau("1 2 3 4 5 6 7 8 9 0", "- - - - - - - - - -");
+        Check.due("one ring of ten", 1, ten.trade());
+        Check.due("round it goes", "1/1 2/1 3/1 4/1 5/1 6/1 7/1 8/1 9/1 0/1", traded(ten));
+        StablepairBureau line = Check.bureau("0 0>1 1>2 2>3 3>4 4>5 5>6 6>7 7>8 8>9", "- - - - - - - - - -");
+        Check.due("one after the other", 10, line.trade());
+        Check.due("in ten rounds", "0/1 1/2 2/3 3/4 4/5 5/6 6/7 7/8 8/9 9/10", traded(line));
         // The own house is ahead of the second one on the list.
         StablepairBureau v = Check.bureau("1>0>2 1 0", "- - -");
         Check.due("each one its own", 3, v.trade());

@@ -14,6 +14,7 @@ final class LatticeTest {
 
     public static void main(String[] args) {
         ring();
+        ringOfTen();
         twoRings();
         noRotation();
         manyPlaces();
@@ -62,6 +63,29 @@ final class LatticeTest {
         StablepairBureau y = Check.bureau("0>2 1>0 2>1", "1>0 2>1 0>2");
         y.run('p');
         Check.due("not in the order of numbers", "0 2 1", rotation(y, 0));
+    }
+
+    /** Ten, each one's list going round from its own number: all are in one ring, nine times. */
+    private static void ringOfTen() {
+        StringBuilder persons = new StringBuilder();
+        StringBuilder houses = new StringBuilder();
+        for (int who = 0; who < 10; who++) {
+            for (int place = 0; place < 10; place++) {
+                persons.append(place == 0 ? who == 0 ? "" : " " : ">").append((who + place) % 10);
+                houses.append(place == 0 ? who == 0 ? "" : " " : ">").append((who + 1 + place) % 10);
+            }
+        }
+        StablepairBureau x = Check.bureau(persons.toString(), houses.toString());
+        x.run('p');
+        for (int turned = 0; turned < 9; turned++) {
+            Check.due("one rotation", 1, x.rotations());
+            Check.due("of ten", "0 1 2 3 4 5 6 7 8 9", rotation(x, 0));
+            Check.due("turn", turned < 8 ? 1 : 0, x.turn(0));
+        }
+        Check.due("the houses' best", "9 0 1 2 3 4 5 6 7 8", Check.homes(x));
+        Check.due("ten stable ones", 10, x.stables());
+        Check.due("gain", 0, x.gain(0));
+        Check.due("cutFor", 1, x.cutFor(0));
     }
 
     private static void twoRings() {

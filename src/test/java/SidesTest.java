@@ -32,6 +32,9 @@ final class SidesTest {
         Check.due("new blocks", 0, x.blocks());
         Check.due("new isStable", true, x.isStable());
         Check.thrown("new open", STATE, x, x::open);
+        Check.thrown("new meanRank", ArithmeticException.class, x, () -> x.meanRank('p'));
+        Check.thrown("new meanRank", ArithmeticException.class, x, () -> x.meanRank('h'));
+        Check.thrown("new pairedShare", ArithmeticException.class, x, x::pairedShare);
         long sum = 7;
         for (int k = 0; k < 72; k++) {
             sum *= 31;
