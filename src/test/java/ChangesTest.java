@@ -14,12 +14,8 @@ final class ChangesTest {
         Check.end();
     }
 
-    private static StablepairBureau three() {
-        return Check.bureau("0>1>2 1>2>0 2>0>1", "1>2>0 2>0>1 0>1>2");
-    }
-
     private static void cutting() {
-        StablepairBureau x = three();
+        StablepairBureau x = Markets.three();
         x.begin('p');
         x.offer(2);
         for (int house = 0; house < 3; house++) {
@@ -107,7 +103,7 @@ final class ChangesTest {
         Check.quiet("one changes, one comes to a house", 2, x, () -> x.without(1));
         Check.quiet("without a house", 2, x, () -> x.withoutHouse(0));
         Check.quiet("without the other house", 1, x, () -> x.withoutHouse(1));
-        StablepairBureau y = three();
+        StablepairBureau y = Markets.three();
         for (int k = 0; k < 3; k++) {
             Check.due("nobody moves", 0, y.without(k));
             Check.due("all move", 3, y.withoutHouse(k));

@@ -8,15 +8,25 @@ final class Check {
 
     private static int done = 0;
     private static int wrong = 0;
+    private static String about = "";
 
     private Check() {
+    }
+
+    /** What the checks are about from now on. */
+    static void about(String sentence) {
+        about = sentence.isEmpty() ? "" : sentence + ": ";
+    }
+
+    static int done() {
+        return done;
     }
 
     static void due(String what, Object want, Object got) {
         done++;
         if (!Objects.equals(want, got)) {
             wrong++;
-            System.out.println(what + ": answered " + got + ", due is " + want);
+            System.out.println(about + what + ": answered " + got + ", due is " + want);
         }
     }
 

@@ -26,11 +26,6 @@ final class LatticeTest {
         Check.end();
     }
 
-    /** Three persons, each one's best house liking it least. */
-    private static StablepairBureau three() {
-        return Check.bureau("0>1>2 1>2>0 2>0>1", "1>2>0 2>0>1 0>1>2");
-    }
-
     private static String rotation(StablepairBureau x, int index) {
         StringBuilder row = new StringBuilder();
         for (int place = 0; place < x.rotationLength(index); place++) {
@@ -40,7 +35,7 @@ final class LatticeTest {
     }
 
     private static void ring() {
-        StablepairBureau x = three();
+        StablepairBureau x = Markets.three();
         x.run('p');
         Check.quiet("one rotation", 1, x, x::rotations);
         Check.quiet("of all", 3, x, () -> x.rotationLength(0));
@@ -67,15 +62,7 @@ final class LatticeTest {
 
     /** Ten, each one's list going round from its own number: all are in one ring, nine times. */
     private static void ringOfTen() {
-        StringBuilder persons = new StringBuilder();
-        StringBuilder houses = new StringBuilder();
-        for (int who = 0; who < 10; who++) {
-            for (int place = 0; place < 10; place++) {
-                persons.append(place == 0 ? who == 0 ? "" : " " : ">").append((who + place) % 10);
-                houses.append(place == 0 ? who == 0 ? "" : " " : ">").append((who + 1 + place) % 10);
-            }
-        }
-        StablepairBureau x = Check.bureau(persons.toString(), houses.toString());
+        StablepairBureau x = Markets.round(10);
         x.run('p');
         for (int turned = 0; turned < 9; turned++) {
             Check.due("one rotation", 1, x.rotations());
@@ -142,7 +129,7 @@ final class LatticeTest {
     }
 
     private static void unstable() {
-        StablepairBureau x = three();
+        StablepairBureau x = Markets.three();
         Check.thrown("rotations", STATE, x, x::rotations);
         for (int index : FAR) {
             Check.thrown("rotationLength", STATE, x, () -> x.rotationLength(index));
@@ -156,7 +143,7 @@ final class LatticeTest {
     }
 
     private static void numbering() {
-        StablepairBureau x = three();
+        StablepairBureau x = Markets.three();
         x.pair(0, 1);
         Check.quiet("stables", 3, x, x::stables);
         String[] all = {"0 1 2", "1 2 0", "2 0 1"};
@@ -179,7 +166,7 @@ final class LatticeTest {
     }
 
     private static void fairest() {
-        StablepairBureau x = three();
+        StablepairBureau x = Markets.three();
         Check.due("by the sum", 6, x.fairest('s'));
         Check.due("the first of equal ones", "0 1 2", Check.homes(x));
         Check.due("by the greatest", 1, x.fairest('w'));
@@ -199,37 +186,11 @@ final class LatticeTest {
         Check.due("none is paired", 0, z.fairest('w'));
     }
 
-    private static final String[] TEN_OF_FOUR = {"0123 1032 2301 3210", "3210 2301 1032 0123"};
-    private static final String[] THREE_OF_THREE = {"012 120 201", "120 201 012"};
-    private static final String[] TWO_OF_TWO = {"01 10", "10 01"};
-
-    /** Puts persons and houses side by side that have nothing to do with one another: their numbers multiply. */
-    private static StablepairBureau beside(String[]... parts) {
-        StringBuilder persons = new StringBuilder();
-        StringBuilder houses = new StringBuilder();
-        int shift = 0;
-        for (String[] part : parts) {
-            for (String list : part[0].split(" ")) {
-                persons.append(persons.length() == 0 ? "" : " ").append(shifted(list, shift));
-            }
-            for (String list : part[1].split(" ")) {
-                houses.append(houses.length() == 0 ? "" : " ").append(shifted(list, shift));
-            }
-            shift += part[0].split(" ").length;
-        }
-        return Check.bureau(persons.toString(), houses.toString());
-    }
-
-    private static String shifted(String list, int shift) {
-        StringBuilder row = new StringBuilder();
-        for (char sign : list.toCharArray()) {
-            row.append(row.length() == 0 ? "" : ">").append(sign - '0' + shift);
-        }
-        return row.toString();
-    }
-
     private static void limits() {
-        StablepairBureau x = beside(TEN_OF_FOUR, THREE_OF_THREE, TWO_OF_TWO);
+        String[] ten = Markets.TEN_OF_FOUR;
+        String[] three = Markets.THREE_OF_THREE;
+        String[] two = Markets.TWO_OF_TWO;
+        StablepairBureau x = Markets.beside(ten, three, two);
         Check.due("sixty", 60, x.stables());
         Check.due("all are paired", 9, x.stableAt(59));
         Check.due("the last one", "3 2 1 0 6 4 5 8 7", Check.homes(x));
@@ -237,26 +198,16 @@ final class LatticeTest {
         Check.due("fairest of sixty, all alike", 20, x.fairest('s'));
         Check.due("the first one", "0 1 2 3 4 5 6 7 8", Check.homes(x));
         Check.due("fairest of sixty by the greatest", 2, x.fairest('w'));
-        tooMany(beside(THREE_OF_THREE, TWO_OF_TWO, TWO_OF_TWO, THREE_OF_THREE), 36);
-        tooMany(beside(TWO_OF_TWO, TWO_OF_TWO, TWO_OF_TWO, TWO_OF_TWO, TWO_OF_TWO), 32);
-        tooMany(beside(TEN_OF_FOUR, THREE_OF_THREE, THREE_OF_THREE), 90);
-        tooMany(beside(TEN_OF_FOUR, TEN_OF_FOUR), 100);
+        tooMany(Markets.beside(three, two, two, three), 36);
+        tooMany(Markets.beside(two, two, two, two, two), 32);
+        tooMany(Markets.beside(ten, three, three), 90);
+        tooMany(Markets.beside(ten, ten), 100);
     }
-
-    /** Markets of eight, all of whom list all, with 59, 60 and 61 stable pairings. */
-    private static final String[][] EIGHT = {
-        {"02134567 10352476 23016745 32107654 45067123 54176032 67452301 67543210",
-            "76543210 67453201 54716032 45607132 31207654 23106745 10325476 01234567"},
-        {"01234567 10325467 23016745 31027654 45670213 54761032 67452301 76543210",
-            "76543201 67452031 57461032 45670123 32106754 23061475 10325467 01234567"},
-        {"01234567 10352746 20316745 32107654 45670123 54716032 67452301 76453210",
-            "76453210 67452103 54761032 45670123 32107654 20316745 10325476 01243567"},
-    };
 
     private static void byAllOrders() {
         int[] many = {59, 60, 61};
         for (int k = 0; k < many.length; k++) {
-            StablepairBureau x = beside(EIGHT[k]);
+            StablepairBureau x = Markets.ofEight(many[k]);
             List<String> stable = new ArrayList<>();
             for (int[] homes : orders(8)) {
                 if (holdsTogether(x, homes)) {
