@@ -21,6 +21,11 @@ final class ChangeBounds extends Bounds {
         return Check.bureau(TEN + nine, TEN + nine);
     }
 
+    /** Two persons who change houses if the houses offer, and a third one with a house of its own. */
+    private static StablepairBureau twoStable() {
+        return Check.bureau("0>1 1>0 2", "1>0 0>1 2");
+    }
+
     private static StablepairBureau withPlaces(int places) {
         StablepairBureau x = Check.bureau("0>1 1>0", "1>0 0>1");
         x.places(0, places);
@@ -110,6 +115,8 @@ final class ChangeBounds extends Bounds {
         Check.due("a number that was there already", -4, lie(y, 0, "0>0"));
         Check.due("the greatest fault", -62, lie(y, 0, "0".repeat(59) + ">"));
         Check.due("sixty signs", 0, lie(y, 0, "0".repeat(60)));
+        Check.due("as persons offer", 0, lie(twoStable(), 0, "0>1"));
+        Check.due("as persons offer, to the other one", 1, lie(twoStable(), 0, "1>0"));
         Check.due("the number of the person is no fault", 0, lie(Check.bureau("0", "0"), 0, "0"));
         Check.due("there are no houses", -2, lie(of(2, 0, 2), 0, "0"));
         Check.due("there are no houses, but an empty list", -1, lie(of(2, 0, 2), 0, ""));
@@ -154,6 +161,7 @@ final class ChangeBounds extends Bounds {
             int one = person;
             Twin.asked("without " + person, 9 - person, ChangeBounds::queue, x -> x.without(one));
         }
+        Check.due("as persons offer", 0, twoStable().without(2));
         Check.due("the one itself is no other one", 0, Check.bureau("0", "0").without(0));
         Check.due("one comes to a house", 1, Check.bureau("0 0", "0>1").without(0));
         Check.due("one who is alone is missed by none", 0, Check.bureau("0 0", "0>1").without(1));
@@ -175,6 +183,7 @@ final class ChangeBounds extends Bounds {
             int one = house;
             Twin.asked("without " + house, 10 - house, ChangeBounds::push, x -> x.withoutHouse(one));
         }
+        Check.due("as persons offer", 1, twoStable().withoutHouse(2));
         Check.due("one comes to none", 1, Check.bureau("0", "0").withoutHouse(0));
         Check.due("one comes to another one", 1, Check.bureau("0>1", "0 0").withoutHouse(0));
         Check.due("one in its place comes to none", 1, Check.bureau("0>1 1", "0 0>1").withoutHouse(1));

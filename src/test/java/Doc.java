@@ -65,14 +65,15 @@ final class Doc {
         Matcher promise = Pattern.compile("## Promise (\\d+): .*\n((?:(?!## ).*\n)*)").matcher(document);
         while (promise.find()) {
             for (String line : promise.group(2).split("\n")) {
-                String words = line.startsWith("`") ? line.substring(line.indexOf("`: ") + 3) : line.replaceAll("^- ", "");
+                boolean signature = line.startsWith("`");
+                String words = signature ? line.substring(line.indexOf("`: ") + 3) : line.replaceAll("^- ", "");
                 split("Promise " + promise.group(1) + ": ", words, all);
             }
         }
         return all;
     }
 
-    /** The parts between stops and semicolons, but for headings: these have no comma, no verb and at most five words. */
+    /** The parts between stops and semicolons, but for the headings of the terms. */
     private static void split(String where, String words, Set<String> all) {
         for (String part : words.trim().replaceAll("\\s+", " ").split("(?<=[.;]) ")) {
             String sentence = part.replaceAll("[.;]$", "");

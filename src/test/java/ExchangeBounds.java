@@ -47,6 +47,8 @@ final class ExchangeBounds extends Bounds {
         Check.due("on each other's list", "1 0", rooms(Check.mates("1 0")));
         Check.due("on one list alone", "-1 -1", rooms(Check.mates("1 -")));
         Check.due("on the other list alone", "-1 -1", rooms(Check.mates("- 0")));
+        Check.due("on one list alone, there is one way", 1, Check.mates("1 -").rooms());
+        Check.due("on the other list alone, there is one way", 1, Check.mates("- 0").rooms());
         Check.due("one is left alone", "-1 2 1", rooms(Check.mates("1 2>0 1")));
         Check.due("one alone", "-1", rooms(Check.mates("-")));
         Doc.terms("it is stable if there are no two, not paired, on each other's list, of whom each is alone, or has its mate "

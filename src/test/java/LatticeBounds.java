@@ -253,6 +253,14 @@ final class LatticeBounds extends Bounds {
         for (int many = 1; many <= 10; many++) {
             Check.due("so many", many, Markets.round(many).stables());
         }
+        StablepairBureau changed = Markets.round(10);
+        changed.stables();
+        changed.cut('h', 0, 9);
+        Check.due("nine, once the persons' best one is cut off", 9, changed.stables());
+        changed.cut('h', 0, 1);
+        Check.due("one, once all but the houses' best one are cut off", 1, changed.stables());
+        changed.cut('h', 0, 0);
+        Check.due("one, once a house has no list", 1, changed.stables());
         for (int many = 59; many <= 60; many++) {
             int stables = many;
             Twin.asked("so many", many, () -> Markets.ofEight(stables), StablepairBureau::stables);

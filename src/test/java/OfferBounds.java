@@ -383,6 +383,10 @@ final class OfferBounds extends Bounds {
             Check.quiet("what offer told", told, y, () -> y.resultAt(one));
         }
         Check.due("the first one still", 'h', y.resultAt(0));
+        StablepairBureau z = hundred();
+        Check.due("the last but one of a hundred", 'r', z.resultAt(98));
+        Check.due("the last of a hundred", 'h', z.resultAt(99));
+        Check.due("that is of both tenth ones", 99, z.offerAt(99));
         Doc.says(20, NO_OFFER);
         indices("result", INDEX, StablepairBureau::new, 0, StablepairBureau::resultAt);
         indices("result of begun ones", INDEX, OfferBounds::justBegun, 0, StablepairBureau::resultAt);
@@ -395,8 +399,9 @@ final class OfferBounds extends Bounds {
         return begun('p', "0", "0");
     }
 
+    /** All are refused to the end of their lists, but for the tenth person by the tenth house. */
     private static StablepairBureau hundred() {
-        StablepairBureau x = Check.bureau(ten(ALL), ten("-"));
+        StablepairBureau x = Check.bureau(ten(ALL), "- - - - - - - - - 9");
         x.run('p');
         return x;
     }

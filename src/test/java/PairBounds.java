@@ -277,6 +277,7 @@ final class PairBounds extends Bounds {
         Check.due("a new object", true, new StablepairBureau().isStable());
         Check.due("nobody on both lists", true, of(10, 10, 10).isStable());
         Check.due("one pair alone blocks, the last of all", false, lastBlocks().isStable());
+        Check.due("one pair alone blocks, the first of all", false, Check.bureau("0", "0").isStable());
         Check.quiet("stable", true, x, x::isStable);
         StablepairBureau y = five(1, 1);
         Check.quiet("not stable", false, y, y::isStable);
