@@ -104,20 +104,18 @@ abstract class Bounds {
     }
 
     static void noPerson(OfNumber use) {
-        for (int person : absent(Twin.busy().many('p'))) {
-            Twin.refused("person " + person, ABSENT, Twin::busy, x -> use.on(x, person));
-        }
-        StablepairBureau others = of(0, 9, 9);
-        Check.thrown("the first of none", ABSENT, others, () -> use.on(others, 0));
-        StablepairBureau ten = of(10, 10, 10);
-        Check.thrown("an eleventh", ABSENT, ten, () -> use.on(ten, 10));
+        noneOf('p', use);
     }
 
     static void noHouse(OfNumber use) {
-        for (int house : absent(Twin.busy().many('h'))) {
-            Twin.refused("house " + house, ABSENT, Twin::busy, x -> use.on(x, house));
+        noneOf('h', use);
+    }
+
+    private static void noneOf(char side, OfNumber use) {
+        for (int who : absent(Twin.busy().many(side))) {
+            Twin.refused("number " + who, ABSENT, Twin::busy, x -> use.on(x, who));
         }
-        StablepairBureau others = of(9, 0, 9);
+        StablepairBureau others = of(side == 'p' ? 0 : 9, side == 'h' ? 0 : 9, 9);
         Check.thrown("the first of none", ABSENT, others, () -> use.on(others, 0));
         StablepairBureau ten = of(10, 10, 10);
         Check.thrown("an eleventh", ABSENT, ten, () -> use.on(ten, 10));
