@@ -699,7 +699,10 @@ public final class StablepairBureau {
         }
 
         void shorten(int who, int size) {
-            for (int place = sizeOf(who) - 1; place >= size && place >= 0; place--) {
+            if (!has(who)) {
+                return;
+            }
+            for (int place = sizes[who] - 1; place >= size && place >= 0; place--) {
                 int other = wishAt(who, place);
                 if (other >= 0 && other < MOST) {
                     spots[MOST * who + other] = 0;

