@@ -149,7 +149,8 @@ final class LanguageTest extends TreePathScanner<Void, Void> {
             }
             deepest = Math.max(deepest, depth(name, new LinkedHashSet<>()));
         }
-        Check.due("rule 11: calls go deep, at most eight, but go " + deepest, true, deepest > 3 && deepest <= MOST_CALLS);
+        Check.due("rule 11: calls go at most eight deep, but go " + deepest, true,
+                deepest > 3 && deepest <= MOST_CALLS);
         Check.due("something was looked at", true, looked > 1000 && methods.size() > 150);
     }
 

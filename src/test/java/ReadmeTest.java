@@ -66,7 +66,8 @@ final class ReadmeTest {
             }
         }
         Check.due("many answers are told", true, checks > 40);
-        return "public class " + NAME + " {\n" + methods + "public static String wrong() {\n" + calls + "return wrong;\n}\n}\n";
+        return "public class " + NAME + " {\n" + methods + "public static String wrong() {\n" + calls
+                + "return wrong;\n}\n}\n";
     }
 
     private static String checked(String line) {
